@@ -237,8 +237,7 @@ public final class LychGate {
 
     private void cheapenBy(int missing, int worth, int cost) {
         for (int r = missing; r >= 1 && r <= MOST_N; r--) {
-            int rest = r - worth;
-            int known = rest <= 0 ? 0 : dearth[rest <= MOST_N ? rest : MOST_N];
+            int known = dearth[Math.max(0, r - Math.max(0, worth))];
             if (known != NONE && (dearth[r] == NONE || known + cost < dearth[r])) {
                 dearth[r] = known + cost;
             }

@@ -193,6 +193,12 @@ public final class PromiseTest {
         parishIs(souls(2) + times("heir 0 1;", 58) + " heir", -7, 14 + 58 * 9 + 1);
         parishIs(souls(2) + times("heir 0 1;", 58) + " hair", -9, 14 + 58 * 9 + 1);
         parishIs(souls(2) + times("heir 0 1;", 58) + "   ", 0, -1);
+        for (String word : new String[] {"soul 1;", "grudge 0 1 1;", "waits 0 1;"}) {
+            parishIs(souls(2) + times("heir 0 1;", 58) + word, -7, 14 + 58 * 9);
+        }
+        parishIs(times(" ", 596) + "soul", -9, 600);
+        parishIs(times(" ", 593) + "soul 1;", 0, -1);
+        parishIs("soulz 1;", -9, 0);
     }
 
     // 4
@@ -260,6 +266,9 @@ public final class PromiseTest {
         lawIs("((((((least[1,2]))))))", -7, 6);
         lawIs("most[1,((((( most[", -7, 13);
         lawIs("((((((leasts", -9, 6);
+        lawIs("(((((((1)))))))", -7, 6);
+        lawIs("least[1,((((((1", -7, 13);
+        lawIs("least[((((((1", -7, 11);
         lawIs("((((((1000", -8, 6);
         c.is("all stays", 4, () -> x.would(0, 1, 0, 0, 0, 0, 0));
     }
@@ -628,6 +637,10 @@ public final class PromiseTest {
         c.is("least what", ILLEGAL, () -> x.least(1, -1));
         lawIs("0", 1, -1);
         c.is("worth nothing", -1, () -> x.least(3, 0));
+        fresh(souls(6) + "grudge 0 1 1;grudge 1 0 1;grudge 2 0 1;grudge 3 2 1;grudge 4 1 1;grudge 5 1 1;");
+        lawIs("20", 1, -1);
+        c.is("the greatest n", 5, () -> x.least(99, 0));
+        c.is("the greatest n", 31, () -> x.least(99, 1));
     }
 
     // 15, 16
@@ -686,6 +699,16 @@ public final class PromiseTest {
         bookIs("3 0;", 1, -1);
         workIs("die 2;die 1;", 2);
         c.is("living souls alone", 2, () -> x.lied(0));
+        fresh(souls(8) + "grudge 1 0 1;grudge 2 0 1;grudge 3 0 1;grudge 4 0 1;grudge 5 0 1;grudge 6 0 1;grudge 7 0 1;"
+            + "grudge 0 1 1;grudge 2 1 1;grudge 3 1 1;grudge 4 1 1;");
+        workIs("again 1[forgive 0;forgive 1;forgive 2;forgive 3;forgive 4;forgive 5;forgive 6;forgive 7;];", 8);
+        bookIs("1 1;", 1, -1);
+        // 0 lied to 1, so of seven who forgave 0 any may have: 35 sets by 3 and as many by 4.
+        c.is("seven forgave", 128, () -> x.lied(0));
+        c.is("seven forgave", 0, () -> x.ask(0));
+        c.is("seven forgave", 35, () -> x.ask(1));
+        bookIs("0 7;", 1, -1);
+        c.is("seven lied", 254, () -> x.lied(1));
         c.is("lied 3", ILLEGAL, () -> x.lied(3));
         c.is("lied -1", ILLEGAL, () -> x.lied(-1));
         c.is("ask 2", ILLEGAL, () -> x.ask(2));
