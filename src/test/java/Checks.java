@@ -38,6 +38,16 @@ final class Checks {
         }
     }
 
+    void sameText(String what, String due, String got) {
+        checked++;
+        if (!due.equals(got)) {
+            wrong++;
+            if (wrong <= 40) {
+                System.out.println(what + ": it was" + due + "; it is" + got);
+            }
+        }
+    }
+
     int wrongOnes() {
         return wrong;
     }

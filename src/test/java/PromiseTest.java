@@ -1,11 +1,5 @@
 /** Promise by promise: ordinary inputs, the edges that the document names, and wrong inputs. */
-public final class PromiseTest {
-    private static final long NO_SUCH = Checks.NO_SUCH;
-    private static final long ILLEGAL = Checks.ILLEGAL;
-
-    private final Checks c = new Checks();
-    private LychGate x = new LychGate();
-
+public final class PromiseTest extends Bench {
     public static void main(String[] args) {
         PromiseTest t = new PromiseTest();
         t.newObject();
@@ -43,49 +37,6 @@ public final class PromiseTest {
         t.imageAndRestore();
         t.statusAndCount();
         t.c.end();
-    }
-
-    private void fresh(String parish) {
-        x = new LychGate();
-        Checks.feed(x, parish);
-        int got = x.parish(parish.length());
-        c.same("parish '" + parish + "' has no fault", 1, got >= 0 ? 1 : 0);
-    }
-
-    private void parishIs(String text, int due, int place) {
-        c.is("parish '" + text + "'", due, () -> Checks.parish(x, text));
-        c.is("fault of '" + text + "'", place, () -> x.fault());
-    }
-
-    private void lawIs(String text, int due, int place) {
-        c.is("law '" + text + "'", due, () -> Checks.law(x, text));
-        c.is("fault of '" + text + "'", place, () -> x.fault());
-    }
-
-    private void workIs(String text, int due, int place) {
-        c.is("work '" + text + "'", due, () -> Checks.work(x, text));
-        c.is("fault of '" + text + "'", place, () -> x.fault());
-    }
-
-    private void workIs(String text, int due) {
-        workIs(text, due, -1);
-    }
-
-    private void bookIs(String text, int due, int place) {
-        c.is("book '" + text + "'", due, () -> Checks.book(x, text));
-        c.is("fault of '" + text + "'", place, () -> x.fault());
-    }
-
-    private void toldIs(int what, int due) {
-        c.is("told " + what, due, () -> x.told(what));
-    }
-
-    private static String times(String text, int many) {
-        return text.repeat(many);
-    }
-
-    private static String souls(int many) {
-        return times("soul 1;", many);
     }
 
     // 1
@@ -184,10 +135,7 @@ public final class PromiseTest {
         parishIs("soul 1;soul 1;grudge 0 1 5;grudge 1 0 5;grudge 0 1 x", -8, 49);
         parishIs(souls(8) + " soul 0;", -7, 57);
         parishIs(souls(8) + "souls 0;", -9, 56);
-        String fourteen = "";
-        for (int i = 0; i < 14; i++) {
-            fourteen += "grudge " + i / 7 + " " + (i % 7 + (i % 7 >= i / 7 ? 1 : 0)) + " 1;";
-        }
+        String fourteen = fourteenGrudges();
         parishIs(souls(8) + fourteen, 14, -1);
         parishIs(souls(8) + fourteen + "grudge 9 9 9;", -7, 56 + 14 * 13);
         parishIs(souls(2) + times("heir 0 1;", 58) + " heir", -7, 14 + 58 * 9 + 1);
