@@ -32,6 +32,7 @@ public final class AskEdgeTest extends Bench {
         t.liedEightSouls();
         t.askEdges();
         t.askAtTheWorst();
+        t.askOfSeven();
         t.wayEdges();
         t.ringsEdges();
         t.evenEdges();
@@ -57,6 +58,7 @@ public final class AskEdgeTest extends Bench {
         t.spanBounds();
         t.spanEdges();
         t.statusEdges();
+        t.refusedOnce();
         t.countEdges();
         t.fiveHundredTwelveCalls();
         t.c.end();
@@ -109,7 +111,7 @@ public final class AskEdgeTest extends Bench {
     /** "NoSuchElementException: no such SOUL, GRUDGE (so below, ahead of others)." */
     private void soulBounds() {
         sceneOfAll();
-        for (int soul : new int[] {-1, 5, 8, 32, LEAST_INT, MOST_INT}) {
+        for (int soul : new int[] {-1, 5, 6, 7, 8, 32, LEAST_INT, MOST_INT}) {
             refuses("soul " + soul, NO_SUCH, g -> g.soul(soul, 0));
             refuses("soul " + soul + " of a wrong what", NO_SUCH, g -> g.soul(soul, 7));
             refuses("net " + soul, NO_SUCH, g -> g.net(soul));
@@ -165,7 +167,7 @@ public final class AskEdgeTest extends Bench {
                 grudgeIs(grudge, what, due[grudge][what]);
             }
         }
-        for (int grudge : new int[] {-1, 5, 14, 32, LEAST_INT, MOST_INT}) {
+        for (int grudge : new int[] {-1, 5, 6, 13, 14, 32, LEAST_INT, MOST_INT}) {
             refuses("grudge " + grudge, NO_SUCH, g -> g.grudge(grudge, 0));
             refuses("grudge " + grudge + " of a wrong what", NO_SUCH, g -> g.grudge(grudge, 6));
             refuses("can " + grudge, NO_SUCH, g -> g.can(grudge) ? 1 : 0);
@@ -539,6 +541,23 @@ public final class AskEdgeTest extends Bench {
         askIs(0, 4);
     }
 
+    /** Seven forgave the last SOUL: none to all of them may have lied. */
+    private void askOfSeven() {
+        fresh(souls(8) + "grudge 0 7 1;grudge 1 7 1;grudge 2 7 1;grudge 3 7 1;grudge 4 7 1;grudge 5 7 1;grudge 6 7 1;");
+        workIs("forgive 0;forgive 1;forgive 2;forgive 3;forgive 4;forgive 5;forgive 6;", 7);
+        askIs(7, 70);
+        fresh(souls(8) + "grudge 7 0 1;grudge 1 0 1;grudge 2 0 1;grudge 3 0 1;grudge 4 0 1;grudge 5 0 1;grudge 6 0 1;");
+        workIs("forgive 0;forgive 1;forgive 2;forgive 3;forgive 4;forgive 5;forgive 6;", 7);
+        askIs(0, 70);
+        bookIs("0 7;", 1, -1);
+        askIs(1, 2);
+        // All seven lied in one set alone, in which nobody lied to 1: that is no set of 1's.
+        fresh(souls(8) + "grudge 7 0 1;grudge 1 0 1;grudge 2 0 1;grudge 3 0 1;grudge 4 0 1;grudge 5 0 1;grudge 6 0 1;grudge 0 1 1;");
+        workIs("forgive 0;forgive 1;forgive 2;forgive 3;forgive 4;forgive 5;forgive 6;forgive 7;", 8);
+        bookIs("0 7;", 1, -1);
+        askIs(1, 1);
+    }
+
     // ---- 19 to 22 ----
 
     /** "WAY of two SOULS: the fewest GRUDGES .. from the one to the other one (0: one SOUL); NONE" */
@@ -585,6 +604,7 @@ public final class AskEdgeTest extends Bench {
     /** "EVEN: .. the fewest payments .. by which nobody owes, is owed, in all, anything" */
     private void evenEdges() {
         evenIs(0, "");
+        evenIs(0, souls(1));
         evenIs(0, souls(8));
         evenIs(1, souls(2) + "grudge 0 1 30;");
         evenIs(0, souls(2) + "grudge 0 1 30;grudge 1 0 30;");
@@ -1088,7 +1108,7 @@ public final class AskEdgeTest extends Bench {
             is("status 0", many, g -> g.status(0));
             is("status 1", 2 * many, g -> g.status(1));
         }
-        // REFUSED STEPS, FAULTS, -1, -20 and NONE are no refused calls.
+        // REFUSED STEPS, FAULTS, -1 and NONE are no refused calls.
         workIs("pass 9;", -8, 5);
         workIs("pass 4;", 0, -1, 1);
         is("no order", -1, g -> g.order(9));
@@ -1100,6 +1120,22 @@ public final class AskEdgeTest extends Bench {
         is("nor does a PARISH", 0, g -> g.parish(0));
         is("status 0", 20, g -> g.status(0));
         is("status 1", 40, g -> g.status(1));
+    }
+
+    /** A call is refused once, were all that it is told wrong. */
+    private void refusedOnce() {
+        sceneOfAll();
+        refuses("soul", NO_SUCH, g -> g.soul(-1, -1));
+        refuses("grudge", NO_SUCH, g -> g.grudge(-1, -1));
+        refuses("would", ILLEGAL, g -> g.would(99, 99, -99, 99, 99, 999, 99));
+        refuses("least", ILLEGAL, g -> g.least(-1, -1));
+        refuses("way", NO_SUCH, g -> g.way(-1, -1));
+        refuses("odds", ILLEGAL, g -> g.odds(-1, -1, -1));
+        refuses("steps", ILLEGAL, g -> g.steps(-1, -1, -1));
+        refuses("bread", NO_SUCH, g -> g.bread(-1, -1, -1));
+        refuses("bread of a SOUL", ILLEGAL, g -> g.bread(0, -1, -1));
+        refuses("year", ILLEGAL, g -> g.year(-1, -1, -1, -1));
+        refuses("span", ILLEGAL, g -> g.span(-1, -1, -1, -1, -1));
     }
 
     /** "0 IMAGES, 1 bytes of the TAPE, 2 WORKS that can be undone; NONE for others." */

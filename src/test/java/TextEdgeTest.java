@@ -67,6 +67,9 @@ public final class TextEdgeTest extends Bench {
         is("one byte less ends too early", -9, g -> g.parish(599));
         is("at the length", 599, g -> g.fault());
         refuses("n of 601", ILLEGAL, g -> g.parish(601));
+        // A word whose last byte is the last of 600 is whole.
+        parishIs(times(" ", 596) + "soul", -9, 600);
+        parishIs(times(" ", 596) + "heir", -9, 600);
     }
 
     /** "{ CLAUSE ";" }, at most 60"; "3 a CLAUSE .. too many (at its word)" */
@@ -619,8 +622,9 @@ public final class TextEdgeTest extends Bench {
     /** "WORDS: small letters, as many as stand there" */
     private void wordsAsManyLetters() {
         x = new LychGate();
-        String[] wrong = {"souls 1;", "sou 1;", "soulsoul 1;", "Soul 1;", "soUl 1;", "SOUL 1;", "soul`1;", "soul{1;"};
-        int[] place = {0, 0, 0, 0, 0, 0, 4, 4};
+        String[] wrong = {"souls 1;", "sou 1;", "soulsoul 1;", "Soul 1;", "soUl 1;", "SOUL 1;", "soula 1;",
+            "soulz 1;", "zsoul 1;", "soul`1;", "soul{1;"};
+        int[] place = {0, 0, 0, 0, 0, 0, 0, 0, 0, 4, 4};
         for (int i = 0; i < wrong.length; i++) {
             parishIs(wrong[i], -9, place[i]);
         }
@@ -741,6 +745,10 @@ public final class TextEdgeTest extends Bench {
         lawIs("((((((leasts[1,2]", -9, 6);
         lawIs("((((((mos", -9, 6);
         lawIs("(((((([", -9, 6);
+        lawIs("((((((", -9, 6);
+        lawIs("((((((%", -9, 6);
+        lawIs("((((((!", -9, 6);
+        lawIs("((((((+", -9, 6);
         lawIs("((((((least", -7, 6);
         workIs(times("again 1[", 6) + "agains 1[", -9, 48);
         workIs(times("again 1[", 6) + "[", -9, 48);
@@ -871,7 +879,8 @@ public final class TextEdgeTest extends Bench {
 
     /** "The first n bytes .. are the PARISH (no LAW, BOOK, IMAGES, nothing to undo): how many GRUDGES" */
     private void parishDropsAll() {
-        scene(souls(3) + "grudge 0 1 5;waits 0 2;heir 0 1;", "7", "0 1;", "forgive 0;begin 0 1 2;", "die 2;lie 0;pass 1;week;");
+        scene(souls(3) + "grudge 0 1 5;waits 0 2;heir 0 1;", "7", "0 1;", "forgive 0;begin 0 1 2;", "die 2;lie 0;pass 1;pass 1;week;");
+        toldIs(11, 1);
         x.image();
         x.image();
         is("works", 2, g -> g.count(2));

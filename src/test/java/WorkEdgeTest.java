@@ -628,7 +628,7 @@ public final class WorkEdgeTest extends Bench {
     private void undoToTheFirst() {
         scene(souls(3) + "grudge 0 1 25;grudge 1 2 5;heir 0 2;waits 2 1;waits 1 2;", "sum", "1 1;");
         leavesAll("undo without WORKS", -1, g -> g.undo());
-        String[] works = {"lie 0;pass 1;", "", "pass 1;week;forgive 0;", "begin 1 2 0;forgive 1;", "die 0;", "week;die 2;"};
+        String[] works = {"lie 0;pass 1;", "", "pass 1;week;forgive 0;", "begin 1 2 0;forgive 1;", "die 0;week;die 2;"};
         String[] before = new String[works.length];
         for (int i = 0; i < works.length; i++) {
             before[i] = changing(x);
@@ -643,6 +643,7 @@ public final class WorkEdgeTest extends Bench {
         is("none is left", -1, g -> g.undo());
         c.sameText("as at first", all(madeAgain()), all(x));
         // What was undone can't be done once more by undo.
+        x = madeAgain();
         workIs("die 0;", 1);
         is("undo", 0, g -> g.undo());
         is("none is left", -1, g -> g.undo());
