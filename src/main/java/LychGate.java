@@ -1067,8 +1067,8 @@ public final class LychGate {
                 case MULTIPLY: return left * right;
                 case DIVIDE: return right == 0 ? 0 : left / right;
                 case REST: return right == 0 ? 0 : left % right;
-                case LEAST: return Math.min(left, right);
-                default: return Math.max(left, right);
+                case LEAST: return left < right ? left : right;
+                default: return left > right ? left : right;
             }
         }
     }

@@ -6,18 +6,51 @@ import java.lang.reflect.Modifier;
 import java.util.ArrayList;
 import java.util.List;
 import java.util.Set;
+import java.util.StringJoiner;
 import java.util.TreeSet;
 
 /** The face is the document's, and nothing else of the class is to be seen (rules 1, 2, 5 and 11). */
 public final class FaceTest {
+    /** As the document writes it, but for the names of the parameters. */
     private static final String[] FACE = {
-        "int ask(int)", "int bread(int,int,int)", "int book(int)", "boolean can(int)", "int count(int)", "int estate(int)",
-        "int even()", "int fault()", "int feed(int,int,int,int,int)", "int free()", "int grudge(int,int)", "int image()",
-        "int law(int)", "int least(int,int)", "int lied(int)", "int more(int)", "int mutual(int)", "int net(int)",
-        "long odds(int,int,int)", "int ones(int)", "int order(int)", "int parish(int)", "int proudest(int)", "int ready(int)",
-        "int restore()", "int rings()", "int soul(int,int)", "int span(int,int,int,int,int)", "int status(int)",
-        "int steps(int,int,int)", "int stuck()", "int told(int)", "int undo()", "int way(int,int)", "int work(int)",
-        "int worst(int)", "int would(int,int,int,int,int,int,int)", "int year(int,int,int,int)"};
+        "int ask(int) throws IllegalArgumentException",
+        "int book(int) throws IllegalArgumentException",
+        "int bread(int,int,int) throws NoSuchElementException, IllegalArgumentException",
+        "boolean can(int) throws NoSuchElementException",
+        "int count(int)",
+        "int estate(int) throws NoSuchElementException",
+        "int even()",
+        "int fault()",
+        "int feed(int,int,int,int,int)",
+        "int free()",
+        "int grudge(int,int) throws NoSuchElementException, IllegalArgumentException",
+        "int image()",
+        "int law(int) throws IllegalArgumentException",
+        "int least(int,int) throws IllegalArgumentException",
+        "int lied(int) throws IllegalArgumentException",
+        "int more(int) throws NoSuchElementException",
+        "int mutual(int) throws IllegalArgumentException",
+        "int net(int) throws NoSuchElementException",
+        "long odds(int,int,int) throws IllegalArgumentException",
+        "int ones(int) throws IllegalArgumentException",
+        "int order(int) throws IllegalArgumentException",
+        "int parish(int) throws IllegalArgumentException",
+        "int proudest(int) throws IllegalArgumentException",
+        "int ready(int) throws IllegalArgumentException",
+        "int restore()",
+        "int rings()",
+        "int soul(int,int) throws NoSuchElementException, IllegalArgumentException",
+        "int span(int,int,int,int,int) throws IllegalArgumentException",
+        "int status(int)",
+        "int steps(int,int,int) throws IllegalArgumentException",
+        "int stuck()",
+        "int told(int) throws IllegalArgumentException",
+        "int undo()",
+        "int way(int,int) throws NoSuchElementException",
+        "int work(int) throws IllegalArgumentException",
+        "int worst(int) throws IllegalArgumentException",
+        "int would(int,int,int,int,int,int,int) throws IllegalArgumentException",
+        "int year(int,int,int,int) throws IllegalArgumentException"};
 
     private static final List<String> wrong = new ArrayList<>();
 
@@ -48,11 +81,15 @@ public final class FaceTest {
     }
 
     private static String signature(Method m) {
-        StringBuilder b = new StringBuilder(m.getReturnType().getName()).append(' ').append(m.getName()).append('(');
+        StringJoiner parameters = new StringJoiner(",", "(", ")");
         for (Class<?> p : m.getParameterTypes()) {
-            b.append(b.charAt(b.length() - 1) == '(' ? "" : ",").append(p.getName());
+            parameters.add(p.getName());
         }
-        return b.append(')').toString();
+        StringJoiner thrown = new StringJoiner(", ", " throws ", "").setEmptyValue("");
+        for (Class<?> e : m.getExceptionTypes()) {
+            thrown.add(e.getSimpleName());
+        }
+        return m.getReturnType().getName() + " " + m.getName() + parameters + thrown;
     }
 
     private static void face() {
